@@ -316,6 +316,7 @@ public final class RowReduction {
             divisorTwos = Limbs.trailingZeros(oddDivisor);
             Limbs.shiftRight(oddDivisor, divisorTwos, Limbs.WIDTH);
             divisorInverse = Limbs.inverse(oddDivisor[0]);
+            // The rows below the pivot become minors of step + 2 rows; those above it stay smaller.
             minorWidth = limbsOfMinor(Math.min(step + 2, size));
             // The shift by the divisor's twos eats limbs from above.
             workWidth = Math.min(minorWidth + divisorTwos / Limbs.BITS + 1, Limbs.WIDTH);
