@@ -7,6 +7,8 @@ public final class OracleTests {
     private static final BigInteger MOST = BigInteger.valueOf(Long.MAX_VALUE);
     private static final int KINDS = 9;
     private static final int ROUNDS = 90;
+    /** A system takes at most 152 calls, and after 512 an object may answer what it likes. */
+    private static final int MOST_USES = 3;
 
     private static int wrong = 0;
     private static final int[] answers = new int[12];
@@ -46,10 +48,16 @@ public final class OracleTests {
     public static void main(String[] args) {
         Random random = new Random(20261116L);
         RowReduction used = new RowReduction();
+        int uses = 0;
         for (int round = 0; round < ROUNDS; round++) {
             for (int kind = 0; kind < KINDS; kind++) {
                 for (int n = 1; n <= 10; n++) {
-                    check(kind, system(kind, n, random), random.nextBoolean() ? used : new RowReduction());
+                    if (uses == MOST_USES) {
+                        used = new RowReduction();
+                        uses = 0;
+                    }
+                    check(kind, system(kind, n, random), used);
+                    uses++;
                 }
             }
         }

