@@ -79,6 +79,7 @@ public final class BoundaryTests {
         solveOfNoLongTellsNothing();
         solveNumeratorBounds();
         solveDenominatorBounds();
+        solveDenominatorsJustOutside();
         solveAnswersTheLeast();
         solveKeepsTheSystem();
         aboveAndUnderOfNone();
@@ -201,6 +202,11 @@ public final class BoundaryTests {
     /** x 0 = above / (a * b * c) */
     private static int[][] quotient(int a, int b, int c, int above) {
         return new int[][] {row(a, -1, 0, 0), row(0, b, -1, 0), row(0, 0, c, above)};
+    }
+
+    /** x 0 = above / (2^62 * last + link); x 1 is 2^31 times, x 2 is 2^62 times as much. */
+    private static int[][] ring(int last, int link, int above) {
+        return new int[][] {row(MIN, 1, 0, 0), row(0, MIN, 1, 0), row(link, 0, last, above)};
     }
 
     private static void dueFirst(String name, int[][] rows, long above, long under) {
@@ -669,6 +675,57 @@ public final class BoundaryTests {
         dueNoLong("denominator 2^64 + 21, which wraps to 21", quotient(61836419, 252871, 1179713, 1));
         dueNoLong("denominator of 93 bits", quotient(MAX, MAX, MAX, 1));
         dueFirst("the largest that shortens", quotient(MAX, MAX, MAX, MAX), 1, (long) MAX * MAX);
+    }
+
+    /** Denominators whose factors are too large for ints. */
+    private static void solveDenominatorsJustOutside() {
+        dueFirst("1 over 2^63 - 1", ring(2, -1, 1), 1, Long.MAX_VALUE);
+        dueFirst("1 over -(2^63 - 1)", ring(-2, 1, 1), -1, Long.MAX_VALUE);
+        for (int above : new int[] {1, -1, 2, -2, MIN, MAX}) {
+            dueNoLong(above + " over 2^63 + 1", ring(2, 1, above));
+            dueNoLong(above + " over -(2^63 + 1)", ring(-2, -1, above));
+            dueNoLong(above + " over 2^63 + 5", ring(2, 5, above));
+            dueNoLong(above + " over 2^64 - 1", ring(4, -1, above));
+            dueNoLong(above + " over 2^64 + 1, which wraps to 1", ring(4, 1, above));
+        }
+        // 2^63 + 1 is 3 times a long, so that a numerator with a factor of 3 makes it one.
+        long third = 3074457345618258603L;
+        for (int sign = -1; sign <= 1; sign += 2) {
+            Subject x = of(ring(2, 1, 3 * sign));
+            due("3 over 2^63 + 1: solve()", x.solve(), 0);
+            dueFraction("3 over 2^63 + 1", x, 0, sign, third);
+            dueFraction("3 * 2^31 over 2^63 + 1", x, 1, sign * (1L << 31), third);
+            dueFraction("3 * 2^62 over 2^63 + 1", x, 2, sign * (1L << 62), third);
+        }
+        dueLastJustOutside();
+    }
+
+    /** x 0 and x 1 have the denominator 77158673929, and the last x is x 0 over the other factor of 2^63 + 1. */
+    private static void dueLastJustOutside() {
+        for (int n = 3; n <= MOST_ROWS; n++) {
+            int[][] rows = new int[n][n + 1];
+            for (int k = 2; k < n - 1; k++) {
+                rows[k][k] = 1;
+                rows[k][n] = k;
+            }
+            rows[0][0] = 262144;
+            rows[0][1] = -1;
+            rows[1][0] = 257545;
+            rows[1][1] = 294336;
+            rows[1][n] = 1;
+            rows[n - 1][0] = -1;
+            rows[n - 1][n - 1] = 119537721;
+            Subject x = of(rows);
+            String name = "x " + (n - 1) + " = 1 over 2^63 + 1";
+            due(name + ": solve()", x.solve(), n);
+            dueNothingTold(name, x);
+            dueSystem(name, x, rows);
+            x.put(n - 1, n - 1, 119537721 / 3);
+            due(name + ", but for a factor of 3: solve()", x.solve(), 0);
+            dueFraction(name + ", but for a factor of 3", x, 0, 1, 77158673929L);
+            dueFraction(name + ", but for a factor of 3", x, 1, 262144, 77158673929L);
+            dueFraction(name + ", but for a factor of 3", x, n - 1, 1, 3074457345618258603L);
+        }
     }
 
     private static void solveAnswersTheLeast() {

@@ -1,7 +1,10 @@
 import java.math.BigInteger;
 import java.util.Random;
 
-/** Systems of many kinds, each answer compared with a plain elimination in fractions of BigIntegers. */
+/**
+ * Systems of many kinds, each answer compared with a plain elimination in fractions of BigIntegers, and runs of
+ * 512 calls of every kind in any order, each answer compared with the document's words done as plainly as can be.
+ */
 public final class OracleTests {
     private static final BigInteger LEAST = BigInteger.valueOf(Long.MIN_VALUE);
     private static final BigInteger MOST = BigInteger.valueOf(Long.MAX_VALUE);
@@ -9,6 +12,8 @@ public final class OracleTests {
     private static final int ROUNDS = 90;
     /** A system takes at most 152 calls, and after 512 an object may answer what it likes. */
     private static final int MOST_USES = 3;
+    private static final int RUNS = 400;
+    private static final int CALLS_OF_A_RUN = 512;
 
     private static int wrong = 0;
     private static final int[] answers = new int[12];
@@ -45,7 +50,71 @@ public final class OracleTests {
         }
     }
 
+    /** The document's words, promise by promise. */
+    private static final class Model {
+        private int[][] rows = new int[1][2];
+        private Fraction[] told = null;
+
+        boolean begin(int n) {
+            if (n < 1 || n > 10) {
+                return false;
+            }
+            rows = new int[n][n + 1];
+            told = null;
+            return true;
+        }
+
+        boolean put(int row, int k, int v) {
+            if (!has(row, k)) {
+                return false;
+            }
+            rows[row][k] = v;
+            return true;
+        }
+
+        int get(int row, int k) {
+            return has(row, k) ? rows[row][k] : 0;
+        }
+
+        int solve() {
+            Fraction[] solution = solution(rows);
+            int answer = answer(solution);
+            told = answer == 0 ? solution : null;
+            return answer;
+        }
+
+        long above(int k) {
+            return tells(k) ? told[k].above().longValueExact() : 0;
+        }
+
+        long under(int k) {
+            return tells(k) ? told[k].under().longValueExact() : 0;
+        }
+
+        int size() {
+            return rows.length;
+        }
+
+        private boolean has(int row, int k) {
+            return row >= 0 && row < rows.length && k >= 0 && k <= rows.length;
+        }
+
+        private boolean tells(int k) {
+            return told != null && k >= 0 && k < told.length;
+        }
+    }
+
     public static void main(String[] args) {
+        systems();
+        dueEveryAnswerMet();
+        runs();
+        System.out.println(wrong == 0 ? "all answers are as due" : wrong + " answers are not as due");
+        if (wrong != 0) {
+            System.exit(1);
+        }
+    }
+
+    private static void systems() {
         Random random = new Random(20261116L);
         RowReduction used = new RowReduction();
         int uses = 0;
@@ -61,11 +130,60 @@ public final class OracleTests {
                 }
             }
         }
-        dueEveryAnswerMet();
-        System.out.println(wrong == 0 ? "all answers are as due" : wrong + " answers are not as due");
-        if (wrong != 0) {
-            System.exit(1);
+    }
+
+    private static void runs() {
+        Random random = new Random(8L);
+        for (int run = 0; run < RUNS; run++) {
+            RowReduction x = new RowReduction();
+            Model model = new Model();
+            int bits = 1 + random.nextInt(32);
+            for (int call = 0; call < CALLS_OF_A_RUN; call++) {
+                String text = call(x, model, bits, random);
+                if (text != null) {
+                    wrong++;
+                    System.out.println("run " + run + ", call " + (call + 1) + ": " + text);
+                }
+            }
         }
+    }
+
+    /** Makes one call on both; null if they answer alike. */
+    private static String call(RowReduction x, Model model, int bits, Random random) {
+        int row = index(model.size(), random);
+        int k = index(model.size(), random);
+        switch (random.nextInt(40)) {
+            case 0: {
+                int n = random.nextInt(3) == 0 ? index(10, random) : 1 + random.nextInt(4);
+                return unlike("begin(" + n + ")", x.begin(n), model.begin(n));
+            }
+            case 1, 2, 3, 4:
+                return unlike("solve()", x.solve(), model.solve());
+            case 5, 6, 7, 8:
+                return unlike("above(" + k + ")", x.above(k), model.above(k));
+            case 9, 10, 11, 12:
+                return unlike("under(" + k + ")", x.under(k), model.under(k));
+            case 13, 14, 15, 16:
+                return unlike("get(" + row + ", " + k + ")", x.get(row, k), model.get(row, k));
+            default: {
+                int v = random.nextInt(20) == 0 ? Integer.MIN_VALUE : random.nextInt() >> (32 - bits);
+                return unlike("put(" + row + ", " + k + ", " + v + ")", x.put(row, k, v), model.put(row, k, v));
+            }
+        }
+    }
+
+    private static String unlike(String call, Object got, Object want) {
+        return got.equals(want) ? null : call + " answered " + got + ", due is " + want;
+    }
+
+    /** Mostly 0 .. n, now and then just outside or far off. */
+    private static int index(int n, Random random) {
+        return switch (random.nextInt(30)) {
+            case 0 -> -1;
+            case 1 -> n + 1;
+            case 2 -> random.nextInt();
+            default -> random.nextInt(n + 1);
+        };
     }
 
     /** The kinds of systems are worth something only if they bring out each answer that solve() has. */

@@ -1,3 +1,5 @@
+import java.math.BigInteger;
+
 /** Runs of calls chosen by hand, promise by promise: ordinary inputs, edges and wrong inputs. */
 public final class PromiseTests {
     private static final int MIN = Integer.MIN_VALUE;
@@ -7,6 +9,8 @@ public final class PromiseTests {
     private static int wrong = 0;
 
     public static void main(String[] args) {
+        termsSolution();
+        termsRefused();
         newObject();
         beginTakesSizes();
         beginRefuses();
@@ -66,7 +70,89 @@ public final class PromiseTests {
         }
     }
 
-    // Promise 1
+    // Terms: "Its SOLUTION are n numbers x (0 .. n - 1) for which in each row the sum of the row's k-th number
+    // times x k is the right side."
+
+    private static void termsSolution() {
+        for (int n = 1; n <= 10; n++) {
+            int[][] rows = new int[n][n + 1];
+            for (int row = 0; row < n; row++) {
+                for (int k = 0; k <= n; k++) {
+                    rows[row][k] = (row * 7 + k * 5) % 11 - 5 + (row == k ? 40 : 0);
+                }
+            }
+            RowReduction x = of(rows);
+            due("solve() of " + n, x.solve(), 0);
+            for (int row = 0; row < n; row++) {
+                dueSum("row " + row + " of " + n, x, rows[row]);
+            }
+        }
+    }
+
+    /** The sum as one fraction, whose denominator is all of theirs multiplied. */
+    private static void dueSum(String name, RowReduction x, int[] row) {
+        int n = row.length - 1;
+        BigInteger above = BigInteger.ZERO;
+        BigInteger under = BigInteger.ONE;
+        for (int k = 0; k < n; k++) {
+            BigInteger part = BigInteger.valueOf(row[k]).multiply(BigInteger.valueOf(x.above(k)));
+            above = above.multiply(BigInteger.valueOf(x.under(k))).add(part.multiply(under));
+            under = under.multiply(BigInteger.valueOf(x.under(k)));
+        }
+        due(name + ": its sum", above, under.multiply(BigInteger.valueOf(row[n])));
+    }
+
+    // "A call that is refused changes nothing."
+
+    private static void termsRefused() {
+        int[][] solved = {row(2, 0, 6), row(0, 4, 6)};
+        int[][] alike = {row(1, 2, 3), row(1, 2, 3)};
+        int[][] noLong = {row(1, MIN, 0, 0), row(0, 1, MIN, 0), row(0, 0, 1, 2)};
+        dueRefusedChangesNothing("new", new RowReduction(), 1);
+        dueRefusedChangesNothing("begun", of(new int[10][11]), 10);
+        dueRefusedChangesNothing("filled", of(solved), 2);
+        RowReduction x = of(solved);
+        due("solve()", x.solve(), 0);
+        dueRefusedChangesNothing("told", x, 2);
+        x = of(alike);
+        due("solve()", x.solve(), -1);
+        dueRefusedChangesNothing("after -1", x, 2);
+        x = of(noLong);
+        due("solve()", x.solve(), 1);
+        dueRefusedChangesNothing("after 1", x, 3);
+        x = of(solved);
+        due("solve()", x.solve(), 0);
+        x.put(0, 0, 0);
+        dueRefusedChangesNothing("told, then put", x, 2);
+    }
+
+    private static void dueRefusedChangesNothing(String name, RowReduction x, int n) {
+        String before = shown(x, n);
+        due(name + ": begin(0)", x.begin(0), false);
+        due(name + ": begin(11)", x.begin(11), false);
+        due(name + ": put(" + n + ", 0, 9)", x.put(n, 0, 9), false);
+        due(name + ": put(0, " + (n + 1) + ", 9)", x.put(0, n + 1, 9), false);
+        for (int outside : OUTSIDE) {
+            due(name + ": begin(" + outside + ")", x.begin(outside), false);
+            due(name + ": put(" + outside + ", 0, 9)", x.put(outside, 0, 9), false);
+            due(name + ": put(0, " + outside + ", 9)", x.put(0, outside, 9), false);
+        }
+        due(name + ": what it shows", shown(x, n), before);
+    }
+
+    /** All that can be asked of it without a change. */
+    private static String shown(RowReduction x, int n) {
+        StringBuilder text = new StringBuilder();
+        for (int row = 0; row <= n; row++) {
+            for (int k = 0; k <= n + 1; k++) {
+                text.append(x.get(row, k)).append(' ');
+            }
+            text.append(": ").append(x.above(row)).append('/').append(x.under(row)).append("; ");
+        }
+        return text.toString();
+    }
+
+    // Promise 1: "A system of size 1."
 
     private static void newObject() {
         RowReduction x = new RowReduction();
@@ -85,7 +171,7 @@ public final class PromiseTests {
         dueNothingTold("another new", other);
     }
 
-    // Promise 2
+    // Promise 2: "A system of so many rows, all 0, with no solution told: true; false if n is not 1 .. 10."
 
     private static void beginTakesSizes() {
         for (int n = 1; n <= 10; n++) {
@@ -132,7 +218,8 @@ public final class PromiseTests {
         due("refused begin: solve()", x.solve(), 0);
     }
 
-    // Promises 3 and 4
+    // Promise 3: "Number k of a row (its right side for k = n) becomes v: true; false if there is no such row or
+    // number." Promise 4: "Number k of a row; 0 if there is none."
 
     private static void putAndGet() {
         RowReduction x = new RowReduction();
@@ -189,7 +276,9 @@ public final class PromiseTests {
         due("get(1, 2)", x.get(1, 2), 6);
     }
 
-    // Promises 5, 6 and 7
+    // Promise 5: "Solves it: 0, and the solution is told till the next solve() or begin(); -1 there is not just one;
+    // 1 plus the least k whose numerator or denominator is no long (then nothing is told). The system stays as it
+    // is." Promise 6: "The numerator of x k; 0 if none is told." Promise 7: "Its denominator; 0 if none is told."
 
     private static void solveOrdinary() {
         RowReduction x = of(row(6, 4), row());
